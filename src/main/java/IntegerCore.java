@@ -420,9 +420,9 @@ public final class IntegerCore {
                 case 2: return highWithUnsigned(x, y);
                 case 3: return highUnsigned(x, y);
                 case 4: return y == 0 ? -1 : x / y;
-                case 5: return y == 0 ? -1 : Long.divideUnsigned(x, y);
+                case 5: return quotientUnsigned(x, y);
                 case 6: return y == 0 ? x : x % y;
-                default: return y == 0 ? x : Long.remainderUnsigned(x, y);
+                default: return restUnsigned(x, y);
             }
         }
 
@@ -437,6 +437,25 @@ public final class IntegerCore {
 
         private static long highUnsigned(long x, long y) {
             return highWithUnsigned(x, y) + (x < 0 ? y : 0);
+        }
+
+        // Written out, as LANGUAGE.md leaves out the library's unsigned division of longs.
+        private static long quotientUnsigned(long x, long y) {
+            if (y == 0) {
+                return -1;
+            }
+            // y is 2^63 or more when taken unsigned: no x holds it twice.
+            if (y < 0) {
+                return isBelow(x, y) ? 0 : 1;
+            }
+            // Half of x has no sign; twice its quotient is the quotient of x, or 1 less.
+            long even = (x >>> 1) / y << 1;
+            return isBelow(x - even * y, y) ? even : even + 1;
+        }
+
+        // By 0 the product is 0, which leaves x, as the document asks.
+        private static long restUnsigned(long x, long y) {
+            return x - quotientUnsigned(x, y) * y;
         }
     }
 
