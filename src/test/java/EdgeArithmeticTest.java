@@ -302,6 +302,12 @@ public final class EdgeArithmeticTest {
             divided(code, -1, -2, 0, -1);
             divided(code, 6, -3, -2, 0);
             divided(code, 0, -3, 0, 0);
+            dividedUnsigned(code, 7, 2, 3, 1);
+            dividedUnsigned(code, 8, 2, 4, 0);
+            dividedUnsigned(code, 99, 10, 9, 9);
+            dividedUnsigned(code, 100, 10, 10, 0);
+            dividedUnsigned(code, 1, 2, 0, 1);
+            dividedUnsigned(code, 0, 3, 0, 0);
         }
         divided(51, MIN, 2, MIN / 2, 0);
         divided(51, MAX, 2, MAX / 2, 1);
@@ -358,12 +364,20 @@ public final class EdgeArithmeticTest {
         dividedUnsigned(51, -2, -1, 0, -2);
         dividedUnsigned(51, -1, MIN, 1, MAX);
         dividedUnsigned(51, -1, 2, MAX, 1);
+        dividedUnsigned(51, -1, 10, 1844674407370955161L, 5);
+        dividedUnsigned(51, 7, -7, 0, 7);
+        dividedUnsigned(51, MAX, MIN, 0, MAX);
+        dividedUnsigned(51, -1, -1, 1, 0);
         dividedUnsigned(59, -1, 1, -1, 0);
         dividedUnsigned(59, 0xffffffffL, 1, -1, 0);
         dividedUnsigned(59, INT_MIN, 1, INT_MIN, 0);
         dividedUnsigned(59, 0xfffffffeL, 0xffffffffL, 0, -2);
         dividedUnsigned(59, -1, INT_MIN, 1, INT_MAX);
         dividedUnsigned(59, -1, 2, INT_MAX, 1);
+        dividedUnsigned(59, -1, 10, 429496729, 5);
+        dividedUnsigned(59, 7, -7, 0, 7);
+        dividedUnsigned(59, INT_MAX, INT_MIN, 0, INT_MAX);
+        dividedUnsigned(59, -1, 0xffffffffL, 1, 0);
     }
 
     private static void divided(int code, long x, long y, long quotient, long rest) {

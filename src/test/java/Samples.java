@@ -122,6 +122,7 @@ final class Samples {
             Words.register(51, 2, 0, 5, 6, 7), Words.register(51, 32, 1, 5, 6, 7), Words.register(51, 33, 0, 5, 6, 7),
             Words.formI(27, 2, 5, 6, 0), Words.register(27, 1, 1, 5, 6, 7), Words.register(27, 32, 1, 5, 6, 7),
             Words.register(59, 0, 2, 5, 6, 7), Words.register(59, 1, 1, 5, 6, 7), Words.register(59, 32, 4, 5, 6, 7),
+            Words.register(59, 1, 3, 5, 6, 7), Words.register(59, 2, 0, 5, 6, 7), Words.register(59, 33, 0, 5, 6, 7),
             Words.register(15, 0, 2, 5, 6, 7), Words.formI(3, 7, 5, 6, 0), Words.formS(35, 4, 6, 7, 0),
             Words.register(47, 0, 1, 5, 6, 7), Words.register(47, 0, 4, 5, 6, 7), Words.register(47, 8, 2, 5, 6, 7),
             Words.register(47, 20, 2, 5, 6, 7), Words.formI(7, 1, 5, 6, 0), Words.formI(7, 4, 5, 6, 0),
