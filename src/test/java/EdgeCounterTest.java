@@ -77,11 +77,13 @@ public final class EdgeCounterTest {
         checkAfter(0xfffffffeL, PLAIN, 4, 0x100000002L);
     }
 
+    // "Numbers wrap.", "15, f 0 or 1: nothing.": the counter grows by L all the same.
     private static void counterWrapsByLengthOfAFence() {
         checkAfter(MAX, Words.register(15, 0, 0, 0, 0, 0), 2, MIN);
         checkAfter(MAX, Words.register(15, 0, 1, 0, 0, 0), 4, MIN + 2);
     }
 
+    // "Numbers wrap.", "99: the counter grows by B instead, if": else by L.
     private static void counterWrapsByLengthOfABranchNotTaken() {
         checkAfter(MAX, Words.formB(1, 0, 0, 64), 2, MIN);
         checkAfter(MAX, Words.formB(4, 0, 0, -64), 4, MIN + 2);
@@ -212,6 +214,7 @@ public final class EdgeCounterTest {
         }
     }
 
+    // "The counter becomes v without bit 0": the counter alone, when there is nothing to drop.
     private static void jumpWithNothingUnderWay() {
         IntegerCore core = Samples.core();
         core.run(PLAIN, 4);

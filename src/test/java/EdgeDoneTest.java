@@ -41,12 +41,14 @@ public final class EdgeDoneTest {
         }
     }
 
+    // "ILLEGAL, and nothing else has changed"
     private static void illegalOnesDoNot() {
         for (int word : Samples.illegal()) {
             checkCounts(word, 0);
         }
     }
 
+    // "Such an instruction is UNDER WAY then, with these numbers as they are now, and nothing else has changed."
     private static void underWayOnesDoNot() {
         for (int word : Samples.wanting(5, 6, 7)) {
             checkCounts(word, 0);
@@ -61,6 +63,7 @@ public final class EdgeDoneTest {
         }
     }
 
+    // "(what was under way is dropped)", "nothing is under way any more": it was neither done nor finished.
     private static void droppedOnesDoNot() {
         for (int word : Samples.wanting(5, 6, 7)) {
             IntegerCore core = Samples.core();
@@ -75,6 +78,7 @@ public final class EdgeDoneTest {
         }
     }
 
+    // "A call that throws changes nothing."
     private static void refusedCallsDoNot() {
         IntegerCore core = Samples.core();
         core.run(PLAIN, 4);
@@ -85,6 +89,7 @@ public final class EdgeDoneTest {
         Check.equal("done() after refused calls", core.done(), 1);
     }
 
+    // "How many instructions were done or finished.": instructions, not calls.
     private static void otherCallsDoNot() {
         IntegerCore core = Samples.core();
         core.run(PLAIN, 4);
@@ -114,6 +119,7 @@ public final class EdgeDoneTest {
         }
     }
 
+    // "An object is used for at most 512 calls after it has been made": finish as the 512th.
     private static void lastOfTheCallsOfAPair() {
         IntegerCore core = new IntegerCore();
         for (int call = 1; call < 511; call += 2) {

@@ -42,6 +42,7 @@ public final class EdgeFinishTest {
         }
     }
 
+    // "IllegalStateException: nothing is under way.": after jump, by which "nothing is under way any more".
     private static void nothingUnderWayAfterAJump() {
         for (int word : Samples.wanting(5, 6, 7)) {
             IntegerCore core = Samples.core();
@@ -109,7 +110,7 @@ public final class EdgeFinishTest {
         checkLoads(0, 4, rows);
     }
 
-    // .. n being 2.
+    // "the lowest n bytes of v, with sign if the sort is 0, else with zeros", n being 2.
     private static void loadOfTwoBytes() {
         long[][] rows = {
             {0, 0, 0}, {0xff, 0xff, 0xff}, {0x7fff, 0x7fff, 0x7fff}, {0x8000, -0x8000, 0x8000}, {0x8001, -0x7fff, 0x8001},
@@ -119,7 +120,7 @@ public final class EdgeFinishTest {
         checkLoads(1, 5, rows);
     }
 
-    // .. n being 4.
+    // "the lowest n bytes of v, with sign if the sort is 0, else with zeros", n being 4.
     private static void loadOfFourBytes() {
         long[][] rows = {
             {0, 0, 0}, {0xffff, 0xffff, 0xffff}, {0x7fffffffL, 0x7fffffffL, 0x7fffffffL},
@@ -131,7 +132,7 @@ public final class EdgeFinishTest {
         checkLoads(2, 6, rows);
     }
 
-    // .. n being 8: all of v; with zeros there is no such load (f 7 is not told).
+    // "the lowest n bytes of v, with sign if the sort is 0, else with zeros", n being 8: f 3 alone.
     private static void loadOfEightBytes() {
         for (long v : Samples.EDGES) {
             checkGiven(Words.formI(3, 3, 5, 6, 0), v, v);
@@ -228,7 +229,7 @@ public final class EdgeFinishTest {
         }
     }
 
-    // The d that a register has become since does not matter: it gets v over what was set.
+    // "d gets": over what it was set to since, be it a and b too.
     private static void dMayBeA() {
         for (int word : Samples.wantingForD(6, 6, 6)) {
             IntegerCore core = Samples.core();

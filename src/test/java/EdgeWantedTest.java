@@ -52,6 +52,7 @@ public final class EdgeWantedTest {
         }
     }
 
+    // "-1 when nothing is under way": after jump, by which "nothing is under way any more".
     private static void nothingUnderWayAfterAJump() {
         for (int word : Samples.wanting(5, 6, 7)) {
             IntegerCore core = Samples.core();
@@ -61,6 +62,7 @@ public final class EdgeWantedTest {
         }
     }
 
+    // "-1 when nothing is under way": after "What is under way is finished".
     private static void nothingUnderWayAfterFinish() {
         for (int word : Samples.wanting(5, 6, 7)) {
             for (boolean gets : new boolean[] {false, true}) {
@@ -94,6 +96,7 @@ public final class EdgeWantedTest {
         }
     }
 
+    // "Number what (0 .. 4) of what is wanted": asked again, it is the same, and can still be finished.
     private static void wantedChangesNothing() {
         for (int word : Samples.wanting(5, 6, 7)) {
             IntegerCore core = Samples.core();
@@ -108,7 +111,7 @@ public final class EdgeWantedTest {
         }
     }
 
-    // A number that is -1 itself doesn't mean that nothing is under way.
+    // "-1 when nothing is under way": but a number of what is under way may be -1 too.
     private static void wantedMinusOneAsANumber() {
         IntegerCore core = new IntegerCore();
         core.set(7, -1);
