@@ -126,12 +126,17 @@ public final class IntegerCore {
         }
     }
 
+    // A field of five bits is a register always; the index is looked at all the same (LANGUAGE.md, rule 7).
+    private long held(int r) {
+        return isRegister(r) ? registers[r] : 0;
+    }
+
     private long x(int w) {
-        return registers[Word.a(w)];
+        return held(Word.a(w));
     }
 
     private long y(int w) {
-        return registers[Word.b(w)];
+        return held(Word.b(w));
     }
 
     private int complete(long next) {

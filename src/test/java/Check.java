@@ -18,6 +18,13 @@ final class Check {
         }
     }
 
+    static void same(String what, String got, String due) {
+        checked++;
+        if (!got.equals(due)) {
+            tell(what + " answered " + got + ", due is " + due);
+        }
+    }
+
     static void holds(String what, boolean held) {
         checked++;
         if (!held) {
